@@ -81,14 +81,14 @@ public final class Pensionledger {
     private final int[] earnedSums;
 
     public Pensionledger() {
-        book = new Book();
+        reckoning = new Reckoning();
+        book = reckoning.book;
         past = new Book[STEPS];
         for (int i = 0; i < past.length; i++) {
             past[i] = new Book();
         }
         typing = new Signs();
         draft = new Signs();
-        reckoning = new Reckoning(book);
         answer = new Amount();
         second = new Amount();
         third = new Amount();
@@ -317,7 +317,14 @@ public final class Pensionledger {
         Stream of = book.stream(stream);
         allow(of.payments < PAYMENTS && isMonth(of.nextMonth()));
         keep();
-        return reckoning.payNext(of);
+        long mending = 0;
+        for (int n = 0; n < of.payments; n++) {
+            int now = reckoning.dueOf(of, of.month + n);
+            mending += (long) (now - of.bookedFor(n)) * (1000 + book.interest * (of.payments - n));
+            of.rebook(n, now);
+        }
+        int due = reckoning.dueOf(of, of.nextMonth());
+        return of.pay(due, due + (int) Math.floorDiv(mending, 1000L));
     }
 
     public int interest(int rate) throws IllegalArgumentException {
@@ -377,7 +384,7 @@ public final class Pensionledger {
         needMember(member);
         needHouse(house);
         need(isDay(day));
-        return reckoning.parts(member).timeIn(house, day, day + 1);
+        return reckoning.timeIn(member, house, day, day + 1);
     }
 
     public int time(int member, int house, int from, int to)
@@ -385,14 +392,14 @@ public final class Pensionledger {
         needMember(member);
         needHouse(house);
         need(isDay(from) && isDay(to) && from <= to);
-        return reckoning.parts(member).timeIn(house, from, to + 1);
+        return reckoning.timeIn(member, house, from, to + 1);
     }
 
     public int worked(int member, int house, int month) throws IndexOutOfBoundsException, IllegalArgumentException {
         needMember(member);
         needHouse(house);
         need(isMonth(month));
-        return reckoning.parts(member).workIn(house, month * MONTH_DAYS, (month + 1) * MONTH_DAYS);
+        return reckoning.workIn(member, house, month * MONTH_DAYS, (month + 1) * MONTH_DAYS);
     }
 
     public String yearPay(int member, int house, int year, int other)
@@ -499,8 +506,6 @@ public final class Pensionledger {
 
     public String transferred(int member, int house, int other, int month)
             throws IndexOutOfBoundsException, IllegalArgumentException {
-        needMember(member);
-        needHouse(house);
         needHouse(other);
         setPension(member, house, month, month);
         reckoning.toValue(answer, member, house, month);
@@ -668,8 +673,13 @@ public final class Pensionledger {
 
     public boolean isSound() {
         for (int m = 0; m < book.members; m++) {
-            if (!areDaysSound(m) || !areMonthsSound(m) || !areLinesSound(book.person(m))) {
+            if (!areDaysSound(m) || !areLinesSound(book.person(m))) {
                 return false;
+            }
+            for (int month = 300; month <= 900; month += 300) {
+                if (!areSharesSound(m, month) || !areTransfersSound(m, month)) {
+                    return false;
+                }
             }
         }
         for (int h = 0; h < HOUSES; h++) {
@@ -692,6 +702,9 @@ public final class Pensionledger {
         }
         for (int m = 0; m < book.members; m++) {
             d = digestMember(d, m);
+            for (int h = 0; h < HOUSES; h++) {
+                d = digestRights(d, m, h);
+            }
         }
         for (int w = 0; w < book.marriages; w++) {
             for (int what = 0; what <= 4; what++) {
@@ -722,15 +735,12 @@ public final class Pensionledger {
             draft.setLine(person, n);
             d = d * 31 + draft.many;
         }
-        for (int h = 0; h < HOUSES; h++) {
-            d = digestRights(d, member, h);
-        }
         return d;
     }
 
     // The lengths are reckoned without making the texts: those of many calls would fill the room.
     private long digestRights(long start, int member, int house) {
-        long d = start * 31 + reckoning.parts(member).timeIn(house, 0, DAYS);
+        long d = start * 31 + reckoning.timeIn(member, house, 0, DAYS);
         setEarned(reckoning.earnedAhead(member, house, DAYS - 1));
         d = d * 31 + answer.signs();
         reckoning.setBase(answer, member, house, 60);
@@ -781,7 +791,7 @@ public final class Pensionledger {
             }
         }
         for (int h = 0; h < HOUSES; h++) {
-            boolean time = at(timeSums, h) == reckoning.parts(member).timeIn(h, 0, DAYS);
+            boolean time = at(timeSums, h) == reckoning.timeIn(member, h, 0, DAYS);
             if (!time || at(earnedSums, h) != reckoning.earnedAhead(member, h, DAYS - 1)) {
                 return false;
             }
@@ -789,42 +799,38 @@ public final class Pensionledger {
         return true;
     }
 
-    private boolean areMonthsSound(int member) {
+    /** Whether what is KEPT of each PENSION and what is GIVEN of it are together the whole. */
+    private boolean areSharesSound(int member, int month) {
         for (int h = 0; h < HOUSES; h++) {
-            for (int month = 300; month <= 900; month += 300) {
-                reckoning.setPension(answer, member, h, month);
-                if (!isSharedOut(member, h, month) || !isTransferSound(member, h, month)) {
-                    return false;
+            reckoning.setPension(answer, member, h, month);
+            second.copy(answer);
+            reckoning.keepOf(second, member, h, month, month);
+            for (int other = 0; other < book.members; other++) {
+                if (other != member) {
+                    third.copy(answer);
+                    reckoning.giveOf(third, member, other, h, month, month);
+                    second.add(third);
                 }
+            }
+            if (second.compare(answer) != 0) {
+                return false;
             }
         }
         return true;
     }
 
-    /** Whether of the PENSION in the answer what is KEPT and what is GIVEN are together the whole. */
-    private boolean isSharedOut(int member, int house, int month) {
-        second.copy(answer);
-        reckoning.keepOf(second, member, house, month, month);
-        for (int other = 0; other < book.members; other++) {
-            if (other != member) {
-                third.copy(answer);
-                reckoning.giveOf(third, member, other, house, month, month);
-                second.add(third);
-            }
-        }
-        return second.compare(answer) == 0;
-    }
-
-    /** Whether the VALUE of the PENSION in the answer is the same again behind a transfer. */
-    private boolean isTransferSound(int member, int house, int month) {
-        second.copy(answer);
-        reckoning.toValue(second, member, house, month);
-        for (int other = 0; other < HOUSES; other++) {
-            third.copy(second);
-            reckoning.fromValue(third, member, other, month);
-            reckoning.toValue(third, member, other, month);
-            if (third.compare(second) != 0) {
-                return false;
+    /** Whether each VALUE is the same again behind each transfer. */
+    private boolean areTransfersSound(int member, int month) {
+        for (int h = 0; h < HOUSES; h++) {
+            reckoning.setPension(answer, member, h, month);
+            reckoning.toValue(answer, member, h, month);
+            for (int other = 0; other < HOUSES; other++) {
+                second.copy(answer);
+                reckoning.fromValue(second, member, other, month);
+                reckoning.toValue(second, member, other, month);
+                if (second.compare(answer) != 0) {
+                    return false;
+                }
             }
         }
         return true;
@@ -1023,7 +1029,7 @@ public final class Pensionledger {
         /** The place of the last beginning that is not behind the moment, or NONE. */
         int placeOf(int moment) {
             int place = NONE;
-            for (int i = 0; i < many && at(starts, i) <= moment; i++) {
+            for (int i = 0; i < many && i < starts.length && starts[i] <= moment; i++) {
                 place = i;
             }
             return place;
@@ -1035,15 +1041,15 @@ public final class Pensionledger {
         }
 
         int startOf(int place) {
-            return at(starts, place);
+            return place >= 0 && place < starts.length ? starts[place] : 0;
         }
 
         int endOf(int place, int last) {
-            return place + 1 < many ? at(starts, place + 1) : last;
+            return place >= 0 && place + 1 < many && place + 1 < starts.length ? starts[place + 1] : last;
         }
 
-        int value(int place) {
-            return at(values, place);
+        int numberAt(int place) {
+            return place >= 0 && place < values.length ? values[place] : 0;
         }
 
         private boolean beginsAt(int start) {
@@ -1090,14 +1096,11 @@ public final class Pensionledger {
     private static final class Person {
         // One place more than a member may fill: for the spell that only would come.
         static final int MOST = SPELLS + 1;
+        static final int NUMBERS = 5;
         int birth;
         int death = NONE;
         int spells;
-        final int[] houses = new int[MOST];
-        final int[] froms = new int[MOST];
-        final int[] tos = new int[MOST];
-        final int[] shares = new int[MOST];
-        final int[] kinds = new int[MOST];
+        final int[] lines = new int[MOST * NUMBERS];
         final Told[] wages = new Told[HOUSES];
 
         Person() {
@@ -1119,12 +1122,8 @@ public final class Pensionledger {
             birth = other.birth;
             death = other.death;
             spells = other.spells;
-            for (int n = 0; n < spells; n++) {
-                put(houses, n, other.houseOf(n));
-                put(froms, n, other.fromOf(n));
-                put(tos, n, other.toOf(n));
-                put(shares, n, other.partOf(n));
-                put(kinds, n, other.kindOf(n));
+            for (int i = 0; i < spells * NUMBERS; i++) {
+                put(lines, i, at(other.lines, i));
             }
             for (int h = 0; h < HOUSES; h++) {
                 wagesAt(h).copy(other.wagesAt(h));
@@ -1136,47 +1135,44 @@ public final class Pensionledger {
         }
 
         int houseOf(int nth) {
-            return at(houses, nth);
+            return at(lines, nth * NUMBERS);
         }
 
         int fromOf(int nth) {
-            return at(froms, nth);
+            return at(lines, nth * NUMBERS + 1);
         }
 
         int toOf(int nth) {
-            return at(tos, nth);
+            return at(lines, nth * NUMBERS + 2);
         }
 
         int partOf(int nth) {
-            return at(shares, nth);
+            return at(lines, nth * NUMBERS + 3);
         }
 
         int kindOf(int nth) {
-            return at(kinds, nth);
+            return at(lines, nth * NUMBERS + 4);
         }
 
         void add(int house, int from, int to, int part, int kind) {
             if (spells < MOST) {
-                put(houses, spells, house);
-                put(froms, spells, from);
-                put(tos, spells, to);
-                put(shares, spells, part);
-                put(kinds, spells, kind);
+                int place = spells * NUMBERS;
+                put(lines, place, house);
+                put(lines, place + 1, from);
+                put(lines, place + 2, to);
+                put(lines, place + 3, part);
+                put(lines, place + 4, kind);
                 spells++;
             }
         }
 
         void endAt(int nth, int day) {
-            put(tos, nth, day);
+            put(lines, nth * NUMBERS + 2, day);
         }
 
         void remove(int nth) {
-            for (int n = nth; n + 1 < spells; n++) {
-                put(houses, n, houseOf(n + 1));
-                put(froms, n, fromOf(n + 1));
-                put(tos, n, toOf(n + 1));
-                put(shares, n, partOf(n + 1));
-                put(kinds, n, kindOf(n + 1));
+            for (int i = nth * NUMBERS; i + NUMBERS < spells * NUMBERS; i++) {
+                put(lines, i, at(lines, i + NUMBERS));
             }
             spells = Math.max(0, spells - 1);
         }
@@ -1245,7 +1241,7 @@ public final class Pensionledger {
         /** The rate of a day with so much time ahead of it. */
         int rateOn(int day, int ahead) {
             int place = rates.placeOf(day);
-            return ahead < bends.value(place) * YEAR_TIME ? rates.value(place) : behinds.value(place);
+            return ahead < bends.numberAt(place) * YEAR_TIME ? rates.numberAt(place) : behinds.numberAt(place);
         }
 
         int pointsOf(int rank, int month) {
@@ -1366,8 +1362,17 @@ public final class Pensionledger {
             return month + payments;
         }
 
-        /** Books what is due for the next month; of that and what else comes to it, pays what is above 0. */
-        int pay(int due, int all) {
+        int bookedFor(int nth) {
+            return at(booked, nth);
+        }
+
+        void rebook(int nth, int due) {
+            put(booked, nth, due);
+        }
+
+        /** Books what is due for the next month; of what comes to it in all, and the carry, pays what is above 0. */
+        int pay(int due, int coming) {
+            int all = coming + carry;
             int coins = Math.max(0, all);
             put(booked, payments, due);
             put(paid, payments, coins);
@@ -1654,30 +1659,18 @@ public final class Pensionledger {
         }
 
         int startOf(int stretch) {
-            return at(starts, stretch);
-        }
-
-        int endOf(int stretch) {
-            return stretch + 1 < many ? at(starts, stretch + 1) : DAYS;
+            return stretch >= 0 && stretch < many && stretch < starts.length ? starts[stretch] : DAYS;
         }
 
         int workOf(int stretch, int house) {
             return at(labour, stretch * HOUSES + house);
         }
 
-        /** What it has on the days from one on till another one begins, together. */
-        int timeIn(int house, int from, int end) {
-            return sum(had, house, from, end);
-        }
-
-        int workIn(int house, int from, int end) {
-            return sum(labour, house, from, end);
-        }
-
-        private int sum(int[] row, int house, int from, int end) {
+        /** What it has, or has worked, on the days from one on till another one begins, together. */
+        int sumOf(int[] row, int house, int from, int end) {
             int sum = 0;
             for (int k = 0; k < many; k++) {
-                int days = Math.min(end, endOf(k)) - Math.max(from, startOf(k));
+                int days = Math.min(end, startOf(k + 1)) - Math.max(from, startOf(k));
                 sum += Math.max(0, days) * at(row, k * HOUSES + house);
             }
             return sum;
@@ -1691,10 +1684,10 @@ public final class Pensionledger {
                 int has = at(had, k * HOUSES + house);
                 for (int r = 0; has > 0 && r < of.rates.many; r++) {
                     int from = Math.max(startOf(k), of.rates.startOf(r));
-                    int end = Math.min(endOf(k), of.rates.endOf(r, DAYS));
+                    int end = Math.min(startOf(k + 1), of.rates.endOf(r, DAYS));
                     int days = Math.max(0, Math.min(day, end) - from);
-                    int early = daysBelow(of.bends.value(r) * YEAR_TIME - ahead, has, days);
-                    units += has * (early * of.rates.value(r) + (days - early) * of.behinds.value(r));
+                    int early = daysBelow(of.bends.numberAt(r) * YEAR_TIME - ahead, has, days);
+                    units += has * (early * of.rates.numberAt(r) + (days - early) * of.behinds.numberAt(r));
                     ahead += has * days;
                 }
             }
@@ -1840,7 +1833,10 @@ public final class Pensionledger {
 
         void set(long number) {
             size = 0;
-            carryOn(number);
+            for (long left = number; left > 0 && size >= 0 && size < limbs.length; left /= LIMB) {
+                limbs[size] = (int) (left % LIMB);
+                size++;
+            }
         }
 
         void copy(Big other) {
@@ -1849,66 +1845,47 @@ public final class Pensionledger {
         }
 
         boolean isOne() {
-            return size == 1 && at(limbs, 0) == 1;
-        }
-
-        private void carryOn(long carry) {
-            for (long left = carry; left > 0 && size >= 0 && size < limbs.length; left /= LIMB) {
-                limbs[size] = (int) (left % LIMB);
-                size++;
-            }
-        }
-
-        private void trim() {
-            while (size > 0 && at(limbs, size - 1) == 0) {
-                size--;
-            }
+            return size == 1 && limbs[0] == 1;
         }
 
         /** Times a number of at most nine digits and a half: limb and carry together stay in a long. */
         void times(long by) {
             long carry = 0;
-            for (int i = 0; i < size && i < limbs.length; i++) {
-                long x = limbs[i] * by + carry;
+            for (int i = 0; i < limbs.length && (i < size || carry > 0); i++) {
+                long x = (i < size ? limbs[i] * by : 0) + carry;
                 limbs[i] = (int) (x % LIMB);
                 carry = x / LIMB;
+                size = Math.max(size, i + 1);
             }
-            carryOn(carry);
-            trim();
+            size = by == 0 ? 0 : size;
         }
 
-        void add(Big other) {
-            addShifted(other, 1, 0);
+        /** Adds another number, times a limb, moved up by some limbs (no more than there are). */
+        void add(Big other, int by, int moved) {
+            long carry = 0;
+            int end = moved + other.size;
+            for (int i = Math.max(0, moved); i < limbs.length && (i < end || carry > 0); i++) {
+                int place = i - moved;
+                long x = (i < size ? limbs[i] : 0) + carry;
+                x += place >= 0 && place < other.size && place < other.limbs.length ? (long) other.limbs[place] * by : 0;
+                limbs[i] = (int) (x % LIMB);
+                carry = x / LIMB;
+                size = Math.max(size, i + 1);
+            }
         }
 
         /** Becomes the product of two others. */
         void setProduct(Big one, Big other) {
             size = 0;
-            for (int i = 0; i < other.size; i++) {
-                addShifted(one, at(other.limbs, i), i);
+            for (int i = 0; one.size > 0 && i < other.size; i++) {
+                add(one, at(other.limbs, i), i);
             }
-        }
-
-        private void addShifted(Big other, int by, int shift) {
-            while (size < shift + other.size && size < limbs.length) {
-                put(limbs, size, 0);
-                size++;
-            }
-            long carry = 0;
-            for (int i = shift; i >= 0 && i < size && i < limbs.length; i++) {
-                long more = i - shift < other.size ? (long) at(other.limbs, i - shift) * by : 0;
-                long x = limbs[i] + more + carry;
-                limbs[i] = (int) (x % LIMB);
-                carry = x / LIMB;
-            }
-            carryOn(carry);
-            trim();
         }
 
         int mod(int by) {
             long rest = 0;
-            for (int i = size - 1; by > 0 && i >= 0; i--) {
-                rest = (rest * LIMB + at(limbs, i)) % by;
+            for (int i = Math.min(size, limbs.length) - 1; by > 0 && i >= 0; i--) {
+                rest = (rest * LIMB + limbs[i]) % by;
             }
             return (int) rest;
         }
@@ -1921,25 +1898,26 @@ public final class Pensionledger {
                 limbs[i] = (int) (x / by);
                 rest = x % by;
             }
-            trim();
+            while (size > 0 && size <= limbs.length && limbs[size - 1] == 0) {
+                size--;
+            }
         }
 
         int compare(Big other) {
             if (size != other.size) {
                 return size < other.size ? -1 : 1;
             }
-            for (int i = size - 1; i >= 0; i--) {
-                if (at(limbs, i) != at(other.limbs, i)) {
-                    return at(limbs, i) < at(other.limbs, i) ? -1 : 1;
+            for (int i = Math.min(size, limbs.length) - 1; i >= 0 && i < other.limbs.length; i--) {
+                if (limbs[i] != other.limbs[i]) {
+                    return limbs[i] < other.limbs[i] ? -1 : 1;
                 }
             }
             return 0;
         }
 
-        /** The number, or what it may be at most (of up to two limbs). */
-        long atMost(long most) {
-            long number = (long) at(limbs, 1) * LIMB + at(limbs, 0);
-            return size > 2 ? most : Math.min(most, size == 2 ? number : size == 1 ? at(limbs, 0) : 0);
+        /** The number, or what it may be at most (less than a limb). */
+        int atMost(int most) {
+            return size > 1 ? most : size == 1 ? Math.min(most, limbs[0]) : 0;
         }
 
         int digits() {
@@ -2017,32 +1995,54 @@ public final class Pensionledger {
         void times(Amount other) {
             mine.setProduct(top, other.top);
             top.copy(mine);
-            settleOver(other);
+            reduceOver(other);
         }
 
         void add(Amount other) {
-            mine.copy(top);
-            theirs.copy(other.top);
-            multiply(mine, other);
-            multiply(theirs, this);
-            mine.add(theirs);
+            crossWith(other);
             top.copy(mine);
-            settleOver(other);
+            top.add(theirs, 1, 0);
+            reduceOver(other);
+        }
+
+        /** Adds a number over another one. */
+        void addPart(long number, int divisor) {
+            theirs.set(number);
+            for (int i = 0; i < factors; i++) {
+                theirs.times(at(below, i));
+            }
+            top.times(divisor);
+            top.add(theirs, 1, 0);
+            push(divisor);
+            reduce();
         }
 
         int compare(Amount other) {
-            mine.copy(top);
-            theirs.copy(other.top);
-            multiply(mine, other);
-            multiply(theirs, this);
+            crossWith(other);
             return mine.compare(theirs);
         }
 
+        /** Makes 'mine' and 'theirs' what stands above, once all below is the same. */
+        private void crossWith(Amount other) {
+            mine.copy(top);
+            theirs.copy(other.top);
+            for (int i = 0; i < other.factors; i++) {
+                mine.times(at(other.below, i));
+            }
+            for (int i = 0; i < factors; i++) {
+                theirs.times(at(below, i));
+            }
+        }
+
         /** Takes what stands below the other one as well, then brings all to lowest terms. */
-        private void settleOver(Amount other) {
+        private void reduceOver(Amount other) {
             for (int i = 0; i < other.factors; i++) {
                 push(at(other.below, i));
             }
+            reduce();
+        }
+
+        private void reduce() {
             int left = 0;
             for (int i = 0; i < factors; i++) {
                 int factor = at(below, i);
@@ -2059,26 +2059,20 @@ public final class Pensionledger {
             factors = left;
         }
 
-        private static void multiply(Big number, Amount by) {
-            for (int i = 0; i < by.factors; i++) {
-                number.times(at(by.below, i));
-            }
-        }
-
         /** One factor more below: into one that is there, as long as it stays small, or a new one. */
         private void push(int factor) {
             if (factor <= 1) {
                 return;
             }
-            for (int i = 0; i < factors; i++) {
-                long product = (long) at(below, i) * factor;
+            for (int i = 0; i < factors && i < below.length; i++) {
+                long product = (long) below[i] * factor;
                 if (product <= MOST_FACTOR) {
-                    put(below, i, (int) product);
+                    below[i] = (int) product;
                     return;
                 }
             }
-            if (factors < MOST) {
-                put(below, factors, factor);
+            if (factors >= 0 && factors < below.length) {
+                below[factors] = factor;
                 factors++;
             }
         }
@@ -2095,29 +2089,36 @@ public final class Pensionledger {
             return a >= 1 && a <= MOST_FACTOR ? (int) a : 1;
         }
 
-        /** Rounded down, and at most so much. */
-        long floorAtMost(long most) {
+        /** Makes 'mine' the fraction, rounded down. */
+        private void roundDown() {
             mine.copy(top);
             for (int i = 0; i < factors; i++) {
                 mine.shrink(at(below, i));
             }
+        }
+
+        int floorAtMost(int most) {
+            roundDown();
             return mine.atMost(most);
         }
 
-        private void setBelow(Big number) {
-            number.set(1);
-            multiply(number, this);
+        /** Makes 'mine' all that stands below. */
+        private void multiplyBelow() {
+            mine.set(1);
+            for (int i = 0; i < factors; i++) {
+                mine.times(at(below, i));
+            }
         }
 
         /** How many signs write() writes. */
         int signs() {
-            setBelow(mine);
+            multiplyBelow();
             return top.digits() + (mine.isOne() ? 0 : 1 + mine.digits());
         }
 
         void write(StringBuilder to) {
             top.write(to);
-            setBelow(mine);
+            multiplyBelow();
             if (!mine.isOne()) {
                 to.append('/');
                 mine.write(to);
@@ -2126,10 +2127,7 @@ public final class Pensionledger {
 
         /** Writes hundredths as a whole number with two digits behind the point, what is left cut off. */
         void writePointed(StringBuilder to) {
-            mine.copy(top);
-            for (int i = 0; i < factors; i++) {
-                mine.shrink(at(below, i));
-            }
+            roundDown();
             int hundredths = mine.mod(100);
             mine.shrink(100);
             mine.write(to);
@@ -2146,14 +2144,13 @@ public final class Pensionledger {
         final long[] pays = new long[YEARS];
         final int[] prices = new int[YEARS];
         final int[] taken = new int[YEARS];
-        final Amount term = new Amount();
         final Amount wanted = new Amount();
         final Amount limit = new Amount();
         final Amount due = new Amount();
         final Amount height = new Amount();
 
-        Reckoning(Book what) {
-            book = what;
+        Reckoning() {
+            book = new Book();
             for (int m = 0; m < days.length; m++) {
                 days[m] = new Parts();
             }
@@ -2174,16 +2171,27 @@ public final class Pensionledger {
             return member > 0 && member < days.length ? days[member] : days[0];
         }
 
+        int timeIn(int member, int house, int from, int end) {
+            Parts of = parts(member);
+            return of.sumOf(of.had, house, from, end);
+        }
+
+        int workIn(int member, int house, int from, int end) {
+            Parts of = parts(member);
+            return of.sumOf(of.labour, house, from, end);
+        }
+
         int earnedAhead(int member, int house, int day) {
             return parts(member).earnedAhead(book.house(house), house, day);
         }
 
         boolean ownAhead(int member, int house, int day) {
+            Parts of = parts(member);
             int tied = book.tiedTo(house);
             int time = 0;
             for (int h = 0; h < HOUSES; h++) {
                 if ((tied >> h & 1) == 1) {
-                    time += parts(member).timeIn(h, 0, day);
+                    time += of.sumOf(of.had, h, 0, day);
                 }
             }
             return time >= book.house(house).vest * YEAR_TIME;
@@ -2206,8 +2214,8 @@ public final class Pensionledger {
                 int work = parts.workOf(k, house);
                 for (int w = 0; work > 0 && w < wages.many; w++) {
                     int from = Math.max(parts.startOf(k), wages.startOf(w) * MONTH_DAYS);
-                    int end = Math.min(parts.endOf(k), wages.endOf(w, MONTHS) * MONTH_DAYS);
-                    addPay(from, end, work * wages.value(w));
+                    int end = Math.min(parts.startOf(k + 1), wages.endOf(w, MONTHS) * MONTH_DAYS);
+                    addPay(from, end, work * wages.numberAt(w));
                 }
             }
         }
@@ -2242,18 +2250,26 @@ public final class Pensionledger {
             House of = book.house(house);
             fillPays(member, house);
             book.prices.spread(prices, FIRST_PRICE);
-            int number = of.many;
-            long more = 0;
+            int number = of.form == ALL ? howManyPaid(year) : of.many;
+            long bounded = 0;
             if (of.form == BEST) {
                 keepBest(number, year);
             } else if (of.form == LAST) {
-                more = keepLast(number, year, of.bound);
-            } else {
-                number = howManyPaid(year);
+                bounded = keepLast(number, year, of.bound);
             }
-            sumPays(out, year);
-            term.set(more);
-            out.add(term);
+            out.set(0);
+            long sum = 0;
+            for (int y = 0; y < year; y++) {
+                sum += payOf(y);
+                boolean samePrice = y + 1 < year && at(prices, y + 1) == at(prices, y);
+                if (!samePrice) {
+                    out.addPart(sum, at(prices, y));
+                    sum = 0;
+                }
+            }
+            out.times(at(prices, year));
+            out.over(PAY_UNITS);
+            out.addPart(bounded, 1);
             out.over(number);
         }
 
@@ -2300,23 +2316,6 @@ public final class Pensionledger {
             return many;
         }
 
-        /** The sum of the pays ahead of a year, raised to it; those of years with one price are taken together. */
-        private void sumPays(Amount out, int year) {
-            out.set(0);
-            long sum = 0;
-            for (int y = 0; y < year; y++) {
-                sum += payOf(y);
-                if (y + 1 == year || at(prices, y + 1) != at(prices, y)) {
-                    term.set(sum);
-                    term.over(at(prices, y));
-                    out.add(term);
-                    sum = 0;
-                }
-            }
-            out.times(at(prices, year));
-            out.over(PAY_UNITS);
-        }
-
         void setPension(Amount out, int member, int house, int month) {
             int day = month * MONTH_DAYS;
             int units = earnedAhead(member, house, day);
@@ -2337,11 +2336,13 @@ public final class Pensionledger {
         private long givenUnits(int member, int other, int house, int month, int at) {
             long units = 0;
             int first = month * MONTH_DAYS;
+            Parts parts = parts(member);
+            House of = book.house(house);
             for (int w = 0; w < book.marriages; w++) {
                 Marriage one = book.marriage(w);
                 if (one.isDivided() && one.isOf(member) && one.isOf(other)) {
-                    int till = earnedAhead(member, house, Math.min(first, one.until));
-                    int from = earnedAhead(member, house, Math.min(first, one.from));
+                    int till = parts.earnedAhead(of, house, Math.min(first, one.until));
+                    int from = parts.earnedAhead(of, house, Math.min(first, one.from));
                     units += (long) one.share * (till - from);
                 }
             }
@@ -2442,19 +2443,7 @@ public final class Pensionledger {
             due.times(height);
             due.toHundredths(house.pointsOf(of.rank, month));
             int bridge = person.ageIn(month) < house.bridgeAge ? house.bridge : 0;
-            return (int) due.floorAtMost(MOST_DUE) + bridge;
-        }
-
-        int payNext(Stream of) {
-            int now = of.nextMonth();
-            long mending = 0;
-            for (int n = 0; n < of.payments; n++) {
-                int better = dueOf(of, of.month + n);
-                mending += (long) (better - at(of.booked, n)) * (1000 + book.interest * (of.payments - n));
-                put(of.booked, n, better);
-            }
-            int next = dueOf(of, now);
-            return of.pay(next, (int) (next + Math.floorDiv(mending, 1000L) + of.carry));
+            return due.floorAtMost(MOST_DUE) + bridge;
         }
     }
 }

@@ -18,8 +18,8 @@ public final class PlainRunsTest {
         "time m h f t", "worked m h o", "yearPay m h y y", "base m h y", "earned m h d", "isOwn m h d",
         "factor m h o", "pension m h o", "face m h o", "kept m h o o", "given m m h o o", "widow m h",
         "level h y N", "ofClass h k o", "value m h o", "transferred m h h o", "lump m h o s", "best m h F G U",
-        "wouldEarn m h f t p", "due S M", "paid S n", "ofStream S W", "line m n", "ofMember m W", "ofMarriage g W",
-        "ofHouse h W", "then W m h d", "typed", "fault", "count W", "isSound", "digest"};
+        "wouldEarn m h f t p", "due S M", "paid S R", "ofStream S 7", "line m n", "ofMember m 4", "ofMarriage g 4",
+        "ofHouse h 0", "then 8 m h d", "typed", "fault", "count 8", "isSound", "digest"};
     private static final int[] WILD = {-1, -2, Integer.MIN_VALUE, Integer.MAX_VALUE, 6000, 1200, 100, 101, -300, 301, 99999, 100000};
 
     private static long seed;
@@ -59,22 +59,23 @@ public final class PlainRunsTest {
     }
 
     /** Wrong now and then, at the edges often; 'before' is the argument ahead of this one. */
-    private static int argument(char kind, int wildness) {
+    private int argument(char kind, int wildness) {
         if (below(100) < wildness) {
             return WILD[below(WILD.length)];
         }
+        PlainLedger.State now = plain.s;
         switch (kind) {
             case 'b': return below(3) == 0 ? edge(0, 5999) : from(0, 600);
-            case 'm': return below(4);
+            case 'm': return lastMember = below(20) == 0 ? 3 : below(Math.max(1, now.who.size()));
             case 'h': return below(3);
             case 'f': return below(3) == 0 ? edge(0, 5999) : from(0, 40) * 60;
             case 't': return Math.min(5999, before + (below(3) == 0 ? below(6000) : from(1, 30) * 60 - 1));
             case 'd': return below(3) == 0 ? edge(0, 5999) : from(0, 100) * 60;
-            case 'c': return from(0, 5999);
+            case 'c': return inSpell();
             case 'x': return below(3) == 0 ? -1 : from(0, 5999);
             case 'p': return below(2) == 0 ? 100 : edge(1, 100);
             case 'k': return below(3);
-            case 'n': return below(10);
+            case 'n': return below(20) == 0 ? below(10) : below(Math.max(1, spells()));
             case 'o': return below(4) == 0 ? edge(0, 1199) : from(0, 200) * 6;
             case 'w': return edge(0, 9999);
             case 'y': return edge(0, 99);
@@ -86,7 +87,7 @@ public final class PlainRunsTest {
             case 'i': return edge(0, 10);
             case 'j': return edge(1, 10);
             case 'u': return below(2) == 0 ? from(0, 3000) : edge(0, 99999);
-            case 'g': return below(4);
+            case 'g': return below(20) == 0 ? below(4) : below(Math.max(1, now.marriages.size()));
             case 's': return edge(0, 100);
             case 'l': return edge(-10, 10);
             case 'L': return edge(0, 30);
@@ -94,19 +95,39 @@ public final class PlainRunsTest {
             case 'P': return below(2) == 0 ? from(-100, 100) : edge(-300, 300);
             case 'A': return edge(0, 99);
             case 'Y': return edge(1, 40);
-            case 'S': return below(below(2) == 0 ? 6 : 2);
+            case 'S': return below(20) == 0 ? below(6) : below(Math.max(1, now.streams.size()));
+            case 'R': return before >= 0 && before < now.paid.size() ? below(now.paid.get(before).size() + 1) : below(24);
+            case '4': return below(20) == 0 ? 5 : below(5);
+            case '7': return below(20) == 0 ? 8 : below(8);
+            case '8': return below(20) == 0 ? 9 : below(9);
+            case '0': return below(20) == 0 ? 11 : below(11);
             case 'T': return below(4) == 0 ? -1 : from(-1, 16);
             case 'N': return before + from(0, 21);
             case 'F': return from(0, 1199);
             case 'G': return Math.min(1200, before + from(0, 37));
             case 'U': return before + from(-1, 400);
-            case 'M': return from(0, 1199);
-            case 'W': return from(0, 10);
+            case 'M': return before >= 0 && before < now.streams.size() ? now.streams.get(before)[2] + from(-1, 121) : from(0, 1199);
             default: return below(2);
         }
     }
 
-    private static Object[] arguments(String[] call, int wildness) {
+    private int lastMember;
+
+    private int spells() {
+        PlainLedger.State now = plain.s;
+        return lastMember >= 0 && lastMember < now.who.size() ? now.who.get(lastMember).spells.size() : 0;
+    }
+
+    /** A day of the spell that was named just ahead of it, or one beside it. */
+    private int inSpell() {
+        if (before < 0 || before >= spells()) {
+            return from(0, 5999);
+        }
+        int[] spell = plain.s.who.get(lastMember).spells.get(before);
+        return below(4) == 0 ? spell[1 + below(2)] + from(0, 1) : from(spell[1], spell[2]);
+    }
+
+    private Object[] arguments(String[] call, int wildness) {
         Object[] given = new Object[call.length - 1];
         for (int i = 0; i < given.length; i++) {
             char kind = call[i + 1].charAt(0);
@@ -169,6 +190,19 @@ public final class PlainRunsTest {
         return fine;
     }
 
+    /** Types a line, with a fault now and then. */
+    private boolean typeLine() {
+        int from = argument('f', 0);
+        before = from;
+        String line = from + "-" + (below(6) == 0 ? from(0, 9999) : argument('t', 0)) + ":" + from(0, 110) + "wrg".charAt(below(3));
+        boolean fine = both("type", 16, -1, -1, -1, -1, -1) != null;
+        for (int i = 0; fine && i < line.length(); i++) {
+            int sign = below(40) == 0 ? below(15) : "0123456789-:wrg".indexOf(line.charAt(i));
+            fine = both("type", sign, below(40) == 0 ? 15 : -1, -1, -1, -1, -1) != null;
+        }
+        return fine && both("fault") != null;
+    }
+
     private boolean run(int number) {
         seed = number * 7919L + 17;
         below(2);
@@ -189,7 +223,10 @@ public final class PlainRunsTest {
                 i++;
             }
             String[] call = CALLS[i].split(" ");
-            fine = both(call[0], arguments(call, wildness)) != null;
+            if (call[0].equals("enter") && below(3) > 0) {
+                fine = typeLine();
+            }
+            fine = fine && both(call[0], arguments(call, wildness)) != null;
             if (fine && call[0].equals("payOut") && below(2) == 0) {
                 for (int k = from(1, 24); fine && k > 0; k--) {
                     fine = both("payOut", below(2)) != null;
@@ -200,7 +237,7 @@ public final class PlainRunsTest {
     }
 
     public static void main(String[] given) {
-        int runs = given.length > 0 ? Integer.parseInt(given[0]) : 60;
+        int runs = given.length > 0 ? Integer.parseInt(given[0]) : 300;
         int first = given.length > 1 ? Integer.parseInt(given[1]) : 1;
         for (int n = first; n < first + runs; n++) {
             if (!new PlainRunsTest().run(n)) {
