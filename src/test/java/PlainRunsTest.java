@@ -22,6 +22,9 @@ public final class PlainRunsTest {
         "ofHouse h 0", "then 8 m h d", "typed", "fault", "count 8", "isSound", "digest"};
     private static final int[] WILD = {-1, -2, Integer.MIN_VALUE, Integer.MAX_VALUE, 6000, 1200, 100, 101, -300, 301, 99999, 100000};
 
+    // Such prices make the longest fractions.
+    private static final int[] PRIMES = {9973, 9967, 9949, 9941, 9931, 9929, 9923, 9907, 9901, 9887, 9883, 9871};
+
     private static long seed;
     private static int before;
     private static final Map<String, Method> MINE = methodsOf(Pensionledger.class);
@@ -178,8 +181,12 @@ public final class PlainRunsTest {
                 fine &= both("wage", m, h, from(100, 900), from(1, 9999)) != null;
             }
         }
-        for (int i = from(0, 12); i > 0; i--) {
-            fine &= both("price", from(0, 99), from(1, 9999)) != null;
+        boolean heavy = below(4) == 0;
+        for (int i = heavy ? 12 : from(0, 12); i > 0; i--) {
+            fine &= both("price", from(0, 99), heavy ? PRIMES[i - 1] : from(1, 9999)) != null;
+        }
+        for (int h = 0; heavy && h < 3; h++) {
+            fine &= both("form", h, below(4) == 0 ? 0 : 1, 10, 99999) != null;
         }
         if (members > 1) {
             fine &= both("marry", 0, 1, from(0, 2000)) != null && both("divide", 0, from(2000, 4000), from(0, 100)) != null;
