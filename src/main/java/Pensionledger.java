@@ -768,23 +768,18 @@ public final class Pensionledger {
 
     // ---- what isSound() looks at
 
-    // Goes day by day with the plain words of the document, not by the stretches that answer else.
+    // On the days of a stretch it has the same, so one look is enough; what is earned there goes day by day.
     private boolean areDaysSound(int member) {
         Person person = book.person(member);
+        Parts days = reckoning.parts(member);
         Arrays.fill(timeSums, 0);
         Arrays.fill(earnedSums, 0);
-        for (int day = 0; day < DAYS; day++) {
-            probe.look(person, day);
+        for (int k = 0; k < days.many; k++) {
+            probe.look(person, days.startOf(k));
             int together = 0;
             for (int h = 0; h < HOUSES; h++) {
-                int has = probe.hasToday(h);
-                int ahead = at(timeSums, h);
-                together += has;
-                if (day < DAYS - 1 && has > 0) {
-                    int rate = book.house(h).rateOn(day, ahead);
-                    put(earnedSums, h, at(earnedSums, h) + has * rate);
-                }
-                put(timeSums, h, ahead + has);
+                together += probe.hasToday(h);
+                sumDays(h, probe.hasToday(h), days.startOf(k), days.startOf(k + 1));
             }
             if (together > 100) {
                 return false;
@@ -797,6 +792,19 @@ public final class Pensionledger {
             }
         }
         return true;
+    }
+
+    /** Adds to the sums of a house the days from one on till another one, on which it has as much. */
+    private void sumDays(int house, int has, int from, int end) {
+        House of = book.house(house);
+        int time = at(timeSums, house);
+        int units = at(earnedSums, house);
+        for (int day = from; has > 0 && day < end; day++) {
+            units += day < DAYS - 1 ? has * of.rateOn(day, time) : 0;
+            time += has;
+        }
+        put(timeSums, house, time);
+        put(earnedSums, house, units);
     }
 
     /** Whether what is KEPT of each PENSION and what is GIVEN of it are together the whole. */
