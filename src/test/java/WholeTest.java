@@ -1,3 +1,7 @@
+import java.math.BigInteger;
+import java.util.ArrayList;
+import java.util.List;
+
 /** Promises 58 (isSound) and 59 (digest): the checksum is reckoned once more here, from the answers of the face. */
 public final class WholeTest {
     public static void main(String[] none) {
@@ -19,8 +23,23 @@ public final class WholeTest {
             wrong("asking changes something");
         }
         Script.run("59 digest", "digest = " + digestOfNew());
+        same(Script.run("as many of everything as there can be", EdgesOfWords.FULL), "as many of everything as there can be");
+        same(Script.run("on the first day", ON_ONE_DAY.replace("D", "0")), "all on the first day");
+        same(Script.run("on the last day", ON_ONE_DAY.replace("D", "5999")), "all on the last day");
         Script.end();
     }
+
+    private static final String ON_ONE_DAY = """
+            member D = 0
+            member D = 1
+            spell 0 0 D D 100 0 = 0
+            spell 0 2 D D 1 0 = 1
+            spell 1 1 D D 100 2 = 0
+            wage 0 0 0 9999 = 0
+            marry 0 1 D = 0
+            death 0 D = -1
+            terms 0 0 0 10 10 = 2
+            """;
 
     private static void wrong(String what) {
         System.out.println(what);
@@ -85,55 +104,68 @@ public final class WholeTest {
         return (d * 31 + 0) * 31 + 1;
     }
 
+    private static final BigInteger AROUND = BigInteger.ONE.shiftLeft(64);
+
+    /** With numbers that never wrap around, and in the end what is left of them in 64 bits. */
     private static long digest(Pensionledger x) {
-        long d = 6553;
+        BigInteger d = BigInteger.valueOf(6553);
+        for (int v : values(x)) {
+            d = d.multiply(BigInteger.valueOf(31)).add(BigInteger.valueOf(v));
+        }
+        if (d.compareTo(AROUND.pow(4)) < 0) {
+            wrong("a digest that does not wrap around looks at nothing");
+        }
+        return d.mod(AROUND).longValue();
+    }
+
+    private static List<Integer> values(Pensionledger x) {
+        List<Integer> all = new ArrayList<>();
         for (int i = 0; i <= 8; i++) {
-            d = d * 31 + x.count(i);
+            all.add(x.count(i));
         }
         for (int m = 0; m < x.count(0); m++) {
-            d = digestMember(x, d, m);
+            addMember(x, all, m);
         }
         for (int k = 0; k < x.count(1); k++) {
             for (int i = 0; i <= 4; i++) {
-                d = d * 31 + x.ofMarriage(k, i);
+                all.add(x.ofMarriage(k, i));
             }
         }
         for (int h = 0; h < 3; h++) {
             for (int i = 0; i <= 10; i++) {
-                d = d * 31 + x.ofHouse(h, i);
+                all.add(x.ofHouse(h, i));
             }
-            d = d * 31 + x.level(h, 40, 50).length();
+            all.add(x.level(h, 40, 50).length());
             for (int i = 0; i <= 2; i++) {
-                d = d * 31 + x.ofClass(h, i, 720);
+                all.add(x.ofClass(h, i, 720));
             }
         }
         for (int s = 0; s < x.count(2); s++) {
             for (int i = 0; i <= 7; i++) {
-                d = d * 31 + x.ofStream(s, i);
+                all.add(x.ofStream(s, i));
             }
-            d = d * 31 + x.due(s, x.ofStream(s, 2));
+            all.add(x.due(s, x.ofStream(s, 2)));
         }
-        d = d * 31 + x.fault();
-        return d * 31 + (x.isSound() ? 1 : 0);
+        all.add(x.fault());
+        all.add(x.isSound() ? 1 : 0);
+        return all;
     }
 
-    private static long digestMember(Pensionledger x, long start, int m) {
-        long d = start;
+    private static void addMember(Pensionledger x, List<Integer> all, int m) {
         for (int i = 0; i <= 4; i++) {
-            d = d * 31 + x.ofMember(m, i);
+            all.add(x.ofMember(m, i));
         }
         for (int n = 0; n < x.ofMember(m, 2); n++) {
-            d = d * 31 + x.line(m, n).length();
+            all.add(x.line(m, n).length());
         }
         for (int h = 0; h < 3; h++) {
-            d = d * 31 + x.time(m, h, 0, 5999);
-            d = d * 31 + x.earned(m, h, 5999).length();
-            d = d * 31 + x.base(m, h, 60).length();
-            d = d * 31 + x.pension(m, h, 720).length();
-            d = d * 31 + (x.isOwn(m, h, 3000) ? 1 : 0);
-            d = d * 31 + x.factor(m, h, 700);
-            d = d * 31 + x.widow(m, h).length();
+            all.add(x.time(m, h, 0, 5999));
+            all.add(x.earned(m, h, 5999).length());
+            all.add(x.base(m, h, 60).length());
+            all.add(x.pension(m, h, 720).length());
+            all.add(x.isOwn(m, h, 3000) ? 1 : 0);
+            all.add(x.factor(m, h, 700));
+            all.add(x.widow(m, h).length());
         }
-        return d;
     }
 }
