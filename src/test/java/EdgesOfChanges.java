@@ -1085,6 +1085,58 @@ final class EdgesOfChanges {
             undo = 7
             count 4 = 4
             """);
+        Edges.promise(25, "Undoes the last CHANGE.", """
+            member 0 = 0
+            member 0 = 1
+            spell 1 0 0 5999 100 0 = 0
+            wage 1 0 0 500 = 0
+            death 1 100 = -1
+            undo = 4
+            undo = 3
+            undo = 2
+            undo = 1
+            ofMember 1 0 ! IOOBE
+            member 10 = 1                    # another one, of whom nothing is known
+            ofMember 1 0 = 10
+            ofMember 1 1 = -1
+            ofMember 1 2 = 0
+            has 1 0 50 = 0
+            wage 1 0 0 5 = 0
+            marry 0 1 20 = 0
+            divide 0 30 40 = 10
+            undo = 4
+            undo = 3
+            marry 1 0 25 = 0
+            ofMarriage 0 0 = 1
+            ofMarriage 0 2 = 25
+            ofMarriage 0 3 = -1
+            ofMarriage 0 4 = -1
+            """);
+        Edges.promise(25, "Undoes the last CHANGE.", """
+            member 0 = 0
+            terms 0 0 0 0 0 = 2
+            bridge 0 10 1199 = 0
+            go 0 0 0 0 = 0
+            payOut 0 = 10
+            bridge 0 1 1199 = 10
+            payOut 0 = 0
+            ofStream 0 6 = -8
+            undo = 6
+            ofStream 0 6 = 0
+            ofStream 0 7 = 10
+            payOut 0 = 0
+            undo = 6
+            undo = 5
+            undo = 4
+            undo = 3
+            go 0 0 5 2 = 0
+            ofStream 0 2 = 5
+            ofStream 0 3 = 2
+            ofStream 0 4 = 0
+            ofStream 0 5 = 0
+            ofStream 0 6 = 0
+            ofStream 0 7 = 0
+            """);
         Edges.promise(26, "Returns how often one knocked, with this.", """
             count 6 = 0
             knock = 1

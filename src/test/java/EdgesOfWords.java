@@ -88,6 +88,10 @@ final class EdgesOfWords {
             terms 0 2 120 0 10 = 2
             best 0 0 130 150 261 = 140     # 1200 * 121 is 1210 * 120
             best 0 0 141 150 261 = 141
+            terms 0 0 0 0 0 = 2
+            wage 0 0 0 1 = 500
+            form 0 0 10 0 = 1
+            best 0 0 12 20 30 = 15         # 75/30000 times 15: all come to less than 1
             """);
         Edges.words("What is told \"from .. on\" holds until the next such begins; told again for the same beginning it comes"
             + " in the place of that one.", """
@@ -194,6 +198,7 @@ final class EdgesOfWords {
             value 4 0 1200 ! IOOBE
             transferred 0 0 3 1200 ! IOOBE
             lump 0 3 1200 101 ! IOOBE
+            lump 4 0 1200 101 ! IOOBE
             best 4 0 9 8 7 ! IOOBE
             wouldEarn 4 0 9 8 0 ! IOOBE
             wouldEarn 0 0 4 9 0 ! IAE
@@ -383,6 +388,33 @@ final class EdgesOfWords {
             spell 0 0 60 60 5 0 = 9
             unspell 0 9 = 9
             line 0 8 = 40-50:5w
+            """);
+        Edges.words("SPELLS of a MEMBER, at most 10", """
+            member 0 = 0
+            death 0 290 = -1
+            spell 0 0 30 34 10 0 = 0
+            spell 0 0 60 64 20 0 = 1
+            spell 0 0 90 94 30 1 = 2
+            spell 0 0 120 124 40 0 = 3
+            spell 0 0 150 154 50 0 = 4
+            spell 0 1 180 184 60 1 = 5
+            spell 0 2 210 214 70 0 = 6
+            spell 0 0 240 244 80 0 = 7
+            spell 0 0 270 274 90 0 = 8
+            spell 0 0 5 9 99 0 = 9
+            time 0 0 5 9 = 495
+            time 0 0 0 29 = 495
+            time 0 0 30 59 = 50
+            time 0 0 60 89 = 100
+            time 0 0 90 119 = 150
+            time 0 0 120 149 = 200
+            time 0 0 150 179 = 250
+            time 0 1 180 209 = 300
+            time 0 2 210 239 = 350
+            time 0 0 240 269 = 400
+            time 0 0 270 5999 = 450
+            time 0 0 0 5999 = 2095
+            wouldEarn 0 0 285 295 100 = 539/60000    # one more, of six days: 2695 hundredths of a day
             """);
         Edges.words("RAW of a MEMBER at a HOUSE on a DAY: 0, if a GAP there has the DAY, or the MEMBER died ahead of it; otherwise"
             + " the greatest PART of the WORK and REST there that have the DAY (0 without).", """
@@ -652,6 +684,13 @@ final class EdgesOfWords {
             rule 0 4 0 60 0 = 6
             earned 0 0 4 = 1/300
             earned 0 0 5999 = 1/300
+            rule 1 0 50 60 50 = 1
+            rule 1 60 40 2 1 = 2
+            unspell 0 0 = 0
+            spell 0 1 0 5999 100 0 = 0
+            earned 0 1 60 = 1/20
+            earned 0 1 120 = 9/100       # the second rule has a bend of its own
+            earned 0 1 180 = 91/1000
             """);
         Edges.words("EARNED on a DAY of a MEMBER at a HOUSE: what it HAS, times the RATE of the RULE of that DAY, if all TIME there"
             + " ahead of that DAY is less than BEND * 6000, otherwise times the RATE behind, divided by 6000000 (it is a fraction of"
@@ -1047,6 +1086,21 @@ final class EdgesOfWords {
             value 0 0 119 = 0
             value 0 1 360 = 0
             """);
+        Edges.words("times 12, times ANNUITY of its AGE / 12", """
+            member 30 = 0
+            terms 0 0 0 0 0 = 2
+            form 0 2 1 99999 = 0
+            spell 0 0 30 59 100 0 = 0
+            wage 0 0 0 500 = 0
+            pension 0 0 12 = 5/2
+            annuity 0 1 5 = 20
+            value 0 0 12 = 600         # six months old
+            value 0 0 17 = 600
+            value 0 0 18 = 150         # twelve
+            annuity 0 0 7 = 20
+            value 0 0 17 = 210
+            value 0 0 18 = 150
+            """);
         Edges.words("TRANSFERRED to another HOUSE: that VALUE, divided by 12 and by the ANNUITY of that one (for the same AGE): coins a"
             + " MONTH there.", TWENTY + """
             transferred 0 0 0 360 = 240
@@ -1087,6 +1141,9 @@ final class EdgesOfWords {
             ofStream 1 2 = 1199
             ofStream 1 3 = 2
             ofStream 6 0 ! IOOBE
+            ofMember 0 4 = 3
+            ofMember 1 4 = 2
+            ofMember 2 4 = 1
             """);
         Edges.words("DUE of a STREAM in a MONTH (of going or later): 0, without BRIDGE, if the MEMBER died ahead of its first DAY;"
             + " otherwise what is KEPT in that MONTH of its PENSION (by going in the MONTH of going), times LEVEL of the HOUSE from the"
@@ -1205,6 +1262,20 @@ final class EdgesOfWords {
             lessen 0 124 1 = 99
             payOut 0 = 96            # 99 for 126, less 1.002 and 1.001, so less 3
             ofStream 0 7 = 697
+            """);
+        Edges.words("times (1000 and INTEREST, as it is now, times how many MONTHS ahead of this one it is)", RETIRED + """
+            go 0 0 120 0 = 0
+            x3: payOut 0 = 100
+            interest 10 = 0
+            wage 0 0 0 1000 = 500
+            payOut 0 = 506           # 200, and 103, 102 and 101
+            lessen 0 0 0 = 300
+            lessen 0 1 250 = 50
+            payOut 0 = 0             # a hundred, less a hundred times 1.04, 1.03, 1.02 and 1.01
+            ofStream 0 6 = -310
+            interest 0 = 10
+            lessen 0 1 -50 = 100
+            payOut 0 = 390           # 200, and 500, less 310
             """);
         Edges.words("To what is DUE for this MONTH come MENDING and CARRY (0 at first).", RETIRED + """
             go 0 0 120 0 = 0
