@@ -812,6 +812,20 @@ final class EdgesOfWords {
             pension 0 0 1099 = 0         # no factor
             pension 0 0 1100 = 1
             """);
+        Edges.words("otherwise what is EARNED ahead of that DAY, times BASE for the YEAR of that DAY, times FACTOR, divided by 12000", """
+            member 0 = 0
+            terms 0 0 0 0 0 = 2
+            rule 0 0 1 60 0 = 1
+            wage 0 0 0 1 = 0
+            spell 0 0 0 0 1 0 = 0
+            form 0 1 1 0 = 0
+            earned 0 0 60 = 1/6000000
+            base 0 0 1 = 1/500
+            pension 0 0 11 = 0
+            pension 0 0 12 = 1/36000000000     # the least
+            form 0 0 10 0 = 1
+            pension 0 0 12 = 1/360000000000
+            """);
     }
 
     private static void spouses() {
@@ -889,10 +903,57 @@ final class EdgesOfWords {
             kept 0 0 36 1 = 18
             death 2 0 = -1
             kept 0 0 36 1 = 36
+            spell 1 0 0 0 100 0 = 0
+            death 1 -1 = 0
+            death 2 -1 = 0
+            kept 1 0 36 36 = 0             # no wage yet
+            wage 1 0 0 600 = 0
+            form 0 1 1 0 = 2
+            kept 1 0 36 36 = 0             # its only day was one with 0, to whom all is given
+            given 1 0 0 36 36 = 1/300
+            death 0 0 = -1
+            kept 1 0 36 1 = 1/300
             """);
     }
 
+    /** As RETIRED, but of 9999 a month, over prices that make a long fraction. */
+    private static final String LONG = """
+            member 0 = 0
+            member 0 = 1
+            terms 0 0 0 0 0 = 2
+            spell 0 0 0 599 100 0 = 0
+            wage 0 0 0 9999 = 0
+            form 0 1 1 0 = 0
+            price 0 7 = 100
+            price 5 9967 = 7
+            price 10 9973 = 9967
+            pension 0 0 120 = 497303774649/348845     # 9999 * 9973 * 9974 / 69769 / 10
+            """;
+
     private static void widows() {
+        Edges.words("KEPT: the PENSION less all that is GIVEN of it.", LONG + """
+            marry 0 1 0 = 0
+            divide 0 600 100 = 600
+            kept 0 0 120 120 = 0
+            given 0 1 0 120 120 = 497303774649/348845
+            undo = 7
+            divide 0 300 100 = 300
+            kept 0 0 120 120 = 497303774649/697690
+            given 0 1 0 120 120 = 497303774649/697690
+            undo = 7
+            divide 0 600 0 = 600
+            kept 0 0 120 120 = 497303774649/348845
+            given 0 1 0 120 120 = 0
+            """);
+        Edges.words("WIDOW PART of a HOUSE: 0 to 100 (60 at first).", LONG + """
+            marry 1 0 0 = 0
+            death 0 600 = -1
+            widow 1 0 = 1491911323947/1744225
+            widows 0 0 = 60
+            widow 1 0 = 0
+            widows 0 100 = 0
+            widow 1 0 = 497303774649/348845
+            """);
         Edges.words("WIDOW PART of a HOUSE: 0 to 100 (60 at first).", COUPLE + """
             ofHouse 0 4 = 60
             marry 0 1 0 = 0
@@ -1176,6 +1237,22 @@ final class EdgesOfWords {
             wage 0 0 0 5 = 4
             due 0 120 = 8
             """);
+        Edges.words("otherwise what is KEPT in that MONTH of its PENSION (by going in the MONTH of going)", RETIRED + """
+            member 0 = 1
+            go 0 0 120 0 = 0
+            marry 1 0 0 = 0
+            due 0 120 = 100
+            divide 0 300 1 = 300
+            due 0 120 = 99               # 99.5
+            undo = 7
+            divide 0 5999 100 = 5999
+            due 0 240 = 0
+            bridge 0 3 1199 = 0
+            due 0 120 = 3
+            death 1 604 = -1
+            due 0 120 = 3
+            due 0 121 = 103              # died ahead of its first day
+            """);
         Edges.words("all rounded down, at most 99999; and BRIDGE coins", RETIRED + """
             go 0 0 120 0 = 0
             wage 0 0 0 5000 = 500
@@ -1189,6 +1266,19 @@ final class EdgesOfWords {
             bridge 0 1000 0 ! IAE
             bridge 0 999 720 = 0
             due 0 120 = 100998           # the bridge comes behind the bound
+            """);
+        Edges.words("all rounded down, at most 99999; and BRIDGE coins", RETIRED + """
+            go 0 0 120 0 = 0
+            rule 0 0 50 60 0 = 1
+            terms 0 2 0 0 10 = 2
+            wage 0 0 0 9999 = 500
+            price 0 1 = 100
+            price 10 9999 = 1
+            pension 0 0 120 = 399920004/5
+            raise 0 30 30 = 5
+            due 0 120 = 99999
+            due 0 228 = 99999            # 848 million
+            due 0 240 = 99999            # and 1102 million
             """);
         Edges.words("times LEVEL of the HOUSE from the YEAR of the MONTH of going to the YEAR of that MONTH, times what its CLASS has of"
             + " POINTS in that MONTH", RETIRED + """
